@@ -53,14 +53,7 @@ public final class BytesTest {
 
     private static List<Integer> withCheck(int[] state) {
         List<Integer> bytes = Due.list(state);
-        int c = 1;
-        int d = 0;
-        for (int b : state) {
-            c = (c + b) % 251;
-            d = (d + c) % 251;
-        }
-        bytes.add(d);
-        bytes.add(c);
+        bytes.addAll(Due.check(bytes));
         return bytes;
     }
 
@@ -161,15 +154,14 @@ public final class BytesTest {
         for (int[] row : rows) {
             TickArena a = smallWorld();
             a.save();
-            if (row[0] == 17) {
-                a.corrupt(16, 234, false);
-            }
             Due.write(a, row[0], row[1]);
             Due.refusesState("load with " + row[1] + " at " + row[0], a::load);
             Due.refusesState("replay with " + row[1] + " at " + row[0], a::replay);
             Due.is("the world stays", a.about(0, 0), 250);
         }
         timerOfNothing();
+        clockBelowZero();
+        lastSlot();
         checkThatDoesNotFit();
     }
 
@@ -184,6 +176,32 @@ public final class BytesTest {
         Due.is("timer of 1", a.about(0, 6), 1);
     }
 
+    private static void clockBelowZero() {
+        TickArena a = new TickArena();
+        Due.write(a, 1, 255, 255, 255, 255);
+        Due.refusesState("load with a clock of -1", a::load);
+    }
+
+    /** Behind the last slot nothing is out of step any more: its own numbers must be looked at. */
+    private static void lastSlot() {
+        TickArena a = new TickArena();
+        for (int slot = 0; slot < 16; slot++) {
+            a.create(0, 0);
+        }
+        a.save();
+        int place = 5 + 15 * 9 + 3;
+        int[][] rows = {{place, 16, 0}, {place + 5, 229, 128}};
+        for (int[] row : rows) {
+            a.corrupt(row[0], row[1], false);
+            Due.seal(a);
+            Due.refusesState("load with " + row[1] + " at " + row[0], a::load);
+            a.corrupt(row[0], row[2], false);
+        }
+        Due.seal(a);
+        a.load();
+        Due.is("good(15)", a.good(15), true);
+    }
+
     private static void checkThatDoesNotFit() {
         TickArena a = smallWorld();
         int size = a.save();
@@ -196,9 +214,12 @@ public final class BytesTest {
         }
         a.corrupt(5, 1, false);
         Due.refusesState("load with a generation that the check does not know", a::load);
+        // With a clock of 166 the check's c is 0: 251 leaves the same rest, but is another byte.
         TickArena b = new TickArena();
-        b.corrupt(55, 85 + 251 - 256 + 5, false);
-        b.corrupt(54, 251, false);
+        Due.write(b, 4, 166);
+        Due.is("the check's c", b.at(55, false), 0);
+        b.load();
+        b.corrupt(55, 251, false);
         Due.refusesState("load with a check of 251", b::load);
     }
 

@@ -85,17 +85,24 @@ final class Due {
         return list;
     }
 
-    /** Writes the check that is due over the last two bytes of the saved state. */
-    static void seal(TickArena arena) {
+    /** The check of the bytes before it: d, c. */
+    static List<Integer> check(List<Integer> bytes) {
         int c = 1;
         int d = 0;
-        int end = arena.size(false) - 2;
-        for (int k = 0; k < end; k++) {
-            c = (c + arena.at(k, false)) % 251;
+        for (int b : bytes) {
+            c = (c + b) % 251;
             d = (d + c) % 251;
         }
-        arena.corrupt(end, d, false);
-        arena.corrupt(end + 1, c, false);
+        return list(d, c);
+    }
+
+    /** Writes the check that is due over the last two bytes of the saved state. */
+    static void seal(TickArena arena) {
+        List<Integer> bytes = bytes(arena, false);
+        int end = bytes.size() - 2;
+        List<Integer> check = check(bytes.subList(0, end));
+        arena.corrupt(end, check.get(0), false);
+        arena.corrupt(end + 1, check.get(1), false);
     }
 
     /** Writes bytes over the saved state from place k on, and seals it. */

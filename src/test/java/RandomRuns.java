@@ -1,3 +1,5 @@
+import java.util.ArrayList;
+import java.util.List;
 import java.util.Random;
 import java.util.function.Supplier;
 
@@ -78,15 +80,14 @@ public final class RandomRuns {
 
     /** The check is taken from the model's bytes, which spares the arena's calls. */
     private void seal() {
-        int c = 1;
-        int d = 0;
+        List<Integer> bytes = new ArrayList<>();
         int end = model.size(false) - 2;
         for (int k = 0; k < end; k++) {
-            c = (c + model.at(k, false)) % 251;
-            d = (d + c) % 251;
+            bytes.add(model.at(k, false));
         }
-        corrupt(end, d, false);
-        corrupt(end + 1, c, false);
+        List<Integer> check = Due.check(bytes);
+        corrupt(end, check.get(0), false);
+        corrupt(end + 1, check.get(1), false);
     }
 
     private void change() {

@@ -17,6 +17,8 @@ public final class ThingsTest {
         handleOf();
         refusedCallsChangeNothing();
         fullLogRefusesLast();
+        fullLogAndFullWorld();
+        roomForEachEntry();
         Due.end();
     }
 
@@ -295,5 +297,73 @@ public final class ThingsTest {
         a.save();
         a.tick(50);
         Due.is("size of the log after save", a.size(true), 50);
+    }
+
+    private static void fullLogAndFullWorld() {
+        TickArena a = new TickArena();
+        for (int slot = 0; slot < 16; slot++) {
+            a.create(slot, slot);
+        }
+        a.save();
+        fillLog(a, 4);
+        Due.refusesState("create without a slot and without room", () -> a.create(1, 1));
+        Due.refusesArgument("create off the world", () -> a.create(1, -1));
+        a.destroy(3);
+        Due.refusesForRoom("create without room", () -> a.create(1, 1));
+        a.load();
+        Due.is("good(3)", a.good(3), true);
+    }
+
+    /** Each entry fits when just its length is left, and not when one byte less is. */
+    private static void roomForEachEntry() {
+        int[] lengths = {5, 4, 6, 6, 6, 1};
+        for (int kind = 0; kind < lengths.length; kind++) {
+            int which = kind;
+            TickArena a = thingAndRoom(lengths[kind]);
+            Due.is("size of the log before", a.size(true), 400 - lengths[kind]);
+            change(a, which);
+            Due.is("size of the log after", a.size(true), 400);
+            Due.is("replay", a.replay(), TickArena.NONE);
+            TickArena b = thingAndRoom(lengths[kind] - 1);
+            Due.refusesForRoom("an entry of kind " + (which + 1), () -> change(b, which));
+            Due.is("size of the log after", b.size(true), 401 - lengths[kind]);
+        }
+    }
+
+    private static TickArena thingAndRoom(int room) {
+        TickArena a = new TickArena();
+        a.create(9, 9);
+        a.save();
+        fillLog(a, room);
+        return a;
+    }
+
+    private static void fillLog(TickArena a, int room) {
+        for (int left = 400 - room; left > 0; left -= 50) {
+            a.tick(Math.min(left, 50));
+        }
+    }
+
+    private static void change(TickArena a, int which) {
+        switch (which) {
+            case 0:
+                a.create(1, 1);
+                break;
+            case 1:
+                a.destroy(0);
+                break;
+            case 2:
+                a.speed(0, 1, 1);
+                break;
+            case 3:
+                a.shape(0, 1, 1);
+                break;
+            case 4:
+                a.timer(0, 1);
+                break;
+            default:
+                a.tick(1);
+                break;
+        }
     }
 }
