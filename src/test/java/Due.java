@@ -1,12 +1,25 @@
 import java.util.ArrayList;
+import java.util.HashSet;
 import java.util.List;
+import java.util.Set;
+import java.util.function.Consumer;
+import java.util.function.Function;
+import java.util.function.Supplier;
 
 /** What the tests share: each answer beside the one that is due, and the making of sealed states. */
 final class Due {
     private static int checked = 0;
     private static int wrong = 0;
+    private static final Set<String> SENTENCES = new HashSet<>();
+    private static String sentence = "";
 
     private Due() {
+    }
+
+    /** The document's sentence that the answers behind this belong to, in its own words. */
+    static void sentence(String words) {
+        sentence = "\"" + words + "\": ";
+        SENTENCES.add(sentence);
     }
 
     static void is(String what, long got, long want) {
@@ -56,12 +69,37 @@ final class Due {
         refuses(what, UnsupportedOperationException.class, call);
     }
 
+    /** Made twice alike: behind the refused call all that can be asked is as without it. */
+    static void changesNothing(String what, Class<? extends RuntimeException> due,
+            Supplier<TickArena> make, Consumer<TickArena> call) {
+        changesNothing(what, make, a -> refuses(what, due, () -> call.accept(a)));
+    }
+
+    static void changesNothing(String what, Supplier<TickArena> make, Consumer<TickArena> call) {
+        List<Function<TickArena, Object>> looks = List.of(
+                Due::world, Due::events, a -> bytes(a, false), a -> bytes(a, true), Due::savedAnew);
+        for (Function<TickArena, Object> look : looks) {
+            TickArena called = make.get();
+            call.accept(called);
+            is("what is seen behind " + what, look.apply(called), look.apply(make.get()));
+        }
+    }
+
+    /** The touching pairs can be seen in no other way. */
+    static List<Integer> savedAnew(TickArena arena) {
+        arena.save();
+        return bytes(arena, false);
+    }
+
     private static void tell(String text) {
         wrong++;
-        System.out.println(text);
+        System.out.println(sentence + text);
     }
 
     static void end() {
+        if (!SENTENCES.isEmpty()) {
+            System.out.print(SENTENCES.size() + " sentences, ");
+        }
         System.out.println(checked + " answers looked at, " + wrong + " not as due");
         if (wrong != 0) {
             System.exit(1);
@@ -115,6 +153,14 @@ final class Due {
 
     /** All that can be asked without changing anything. */
     static String picture(TickArena arena) {
+        StringBuilder text = new StringBuilder(world(arena));
+        text.append(" | state ").append(bytes(arena, false));
+        text.append(" | log ").append(bytes(arena, true));
+        return text.append(" | events ").append(events(arena)).toString();
+    }
+
+    /** The clock and the things. */
+    static String world(TickArena arena) {
         StringBuilder text = new StringBuilder();
         text.append("clock ").append(arena.clock());
         for (int slot = 0; slot < 16; slot++) {
@@ -124,9 +170,25 @@ final class Due {
                 text.append(' ').append(arena.about(handle, what));
             }
         }
-        text.append(" | state ").append(bytes(arena, false));
-        text.append(" | log ").append(bytes(arena, true));
-        return text.append(" | events ").append(events(arena)).toString();
+        return text.toString();
+    }
+
+    /** The bytes of a log over as many ticks, so that every log can be made; the saved state stays. */
+    static void writeLog(TickArena arena, int... bytes) {
+        arena.load();
+        for (int left = bytes.length; left > 0; left -= 50) {
+            arena.tick(Math.min(left, 50));
+        }
+        for (int k = 0; k < bytes.length; k++) {
+            arena.corrupt(k, bytes[k], true);
+        }
+    }
+
+    /** Ticks until just so much room is left in the log. */
+    static void leaveRoom(TickArena arena, int room) {
+        for (int left = 400 - room - arena.size(true); left > 0; left -= 50) {
+            arena.tick(Math.min(left, 50));
+        }
     }
 
     /** The events as kind, a, b in turn. */

@@ -305,7 +305,7 @@ public final class ThingsTest {
             a.create(slot, slot);
         }
         a.save();
-        fillLog(a, 4);
+        Due.leaveRoom(a, 4);
         Due.refusesState("create without a slot and without room", () -> a.create(1, 1));
         Due.refusesArgument("create off the world", () -> a.create(1, -1));
         a.destroy(3);
@@ -334,14 +334,8 @@ public final class ThingsTest {
         TickArena a = new TickArena();
         a.create(9, 9);
         a.save();
-        fillLog(a, room);
+        Due.leaveRoom(a, room);
         return a;
-    }
-
-    private static void fillLog(TickArena a, int room) {
-        for (int left = 400 - room; left > 0; left -= 50) {
-            a.tick(Math.min(left, 50));
-        }
     }
 
     private static void change(TickArena a, int which) {
