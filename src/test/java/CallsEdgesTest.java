@@ -1,6 +1,6 @@
 import java.util.List;
 
-/** The sentences of promises 1 to 19 that name a boundary, but for those of replay. */
+/** The sentences of promises 1 to 19 that name a boundary, but for promise 16: see ReplayEdgesTest. */
 public final class CallsEdgesTest {
     private static final int MAX = Integer.MAX_VALUE;
     private static final int MIN = Integer.MIN_VALUE;
@@ -86,7 +86,8 @@ public final class CallsEdgesTest {
     }
 
     private static void createInTheLowestEmptySlot() {
-        Due.sentence("A new thing at a place, at rest, without shape and timer, in the lowest empty slot; answers its handle.");
+        Due.sentence("A new thing at a place, at rest, without shape and timer, in the lowest empty slot;"
+                + " answers its handle.");
         int[][] rows = {{0, 15, 0}, {15, 0, 0}, {14, 15, 14}, {15, 14, 14}, {7, 8, 7}, {1, 0, 0}};
         for (int[] row : rows) {
             TickArena a = filled(16);
@@ -99,7 +100,8 @@ public final class CallsEdgesTest {
     }
 
     private static void createAtRest() {
-        Due.sentence("A new thing at a place, at rest, without shape and timer, in the lowest empty slot; answers its handle.");
+        Due.sentence("A new thing at a place, at rest, without shape and timer, in the lowest empty slot;"
+                + " answers its handle.");
         TickArena a = new TickArena();
         a.create(1, 1);
         a.speed(0, 100, -100);
@@ -152,7 +154,8 @@ public final class CallsEdgesTest {
         }
     }
 
-    private static final int[] NOT_GOOD = {1, 16, 17 + 16, 2, 15, -1, -15, 17 + (1 << 20), 17 + (1 << 24), MIN + 17, MIN, MAX};
+    private static final int[] NOT_GOOD = {1, 16, 17 + 16, 2, 15, -1, -15, 17 + (1 << 20), 17 + (1 << 24),
+        MIN + 17, MIN, MAX};
 
     /** Slots 0 and 1 have things, of generation 0 and 1: 0 and 17 are the good handles. */
     private static TickArena twoThings() {
@@ -401,7 +404,8 @@ public final class CallsEdgesTest {
     }
 
     private static void eventRefuses() {
-        Due.sentence("IndexOutOfBoundsException when there is no such event; IllegalArgumentException when what is none of these.");
+        Due.sentence("IndexOutOfBoundsException when there is no such event;"
+                + " IllegalArgumentException when what is none of these.");
         TickArena none = new TickArena();
         Due.refusesIndex("event(0, 0) of a new object", () -> none.event(0, 0));
         none.tick(1);
@@ -459,7 +463,8 @@ public final class CallsEdgesTest {
     }
 
     private static void aboutRefuses() {
-        Due.sentence("IllegalArgumentException when the handle is not good; IndexOutOfBoundsException when what is none of these.");
+        Due.sentence("IllegalArgumentException when the handle is not good;"
+                + " IndexOutOfBoundsException when what is none of these.");
         TickArena a = twoThings();
         int[] wrong = {-1, 7, MIN, MAX};
         for (int what : wrong) {

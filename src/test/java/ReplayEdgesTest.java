@@ -126,7 +126,8 @@ public final class ReplayEdgesTest {
 
     /** One that can be at the start. */
     private static int[] someEntry(int kind) {
-        int[][] entries = {{}, {1, 0, 9, 0, 9}, {2, 0, 0, 0}, {3, 0, 0, 0, 129, 127}, {4, 0, 0, 0, 5, 5}, {5, 0, 0, 0, 3, 0}};
+        int[][] entries = {{}, {1, 0, 9, 0, 9}, {2, 0, 0, 0}, {3, 0, 0, 0, 129, 127}, {4, 0, 0, 0, 5, 5},
+            {5, 0, 0, 0, 3, 0}};
         return entries[kind];
     }
 
@@ -252,7 +253,8 @@ public final class ReplayEdgesTest {
         Due.sentence(PLACE);
         int[][] good = {{0, 0, 0}, {15, 255, 241}};
         int[][] stale = {{0, 0, 1}, {0, 0, 16}, {0, 0, 17}, {0, 0, 2}, {0, 0, 15}, {15, 255, 225}, {15, 255, 240},
-            {15, 255, 242}, {16, 0, 0}, {16, 0, 1}, {31, 255, 241}, {255, 255, 241}, {255, 255, 255}, {1, 0, 0}, {128, 0, 0}};
+            {15, 255, 242}, {16, 0, 0}, {16, 0, 1}, {31, 255, 241}, {255, 255, 241}, {255, 255, 255},
+            {1, 0, 0}, {128, 0, 0}};
         for (int kind = 2; kind <= 5; kind++) {
             for (int[] handle : good) {
                 can(withHandle(kind, handle));
